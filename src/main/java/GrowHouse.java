@@ -38,8 +38,6 @@ public final class GrowHouse {
     private static final int FAULT_PLACE = 1;
     private static final int FAULT_NUMBER = 2;
     private static final int FAULT_DEPTH = 3;
-    /** Far above the turns that empty loops of a SCRIPT can take (some 200,000). */
-    private static final int MANY_TURNS = 1000000;
     private static final Deed[] DEEDS = Deed.values();
 
     private final House now = new House();
@@ -1180,7 +1178,7 @@ public final class GrowHouse {
     private static final class Script {
         final Deed[] deeds = new Deed[MOST_SCRIPT];
         final int[] numbers = new int[MOST_SCRIPT * NUMBERS];
-        /** Of an AGAIN the line of its end, of that the line of its AGAIN. */
+        /** Of the end of an AGAIN: the line of that. */
         final int[] partners = new int[MOST_SCRIPT];
         /** Of an AGAIN: how many rounds are left. */
         final int[] rounds = new int[MOST_SCRIPT];
@@ -1247,14 +1245,17 @@ public final class GrowHouse {
             }
         }
 
-        /** Only while one is open. */
+        /** Only while one is open. What is never done leaves no line, so each AGAIN that does has a DEED in each round. */
         void takeClose(Tape text) {
             place++;
             depth--;
             int again = open[depth];
-            int added = addLine(Deed.CLOSE);
-            partners[added] = again;
-            partners[again] = added;
+            if (lines == again + 1 || numbers[again * NUMBERS] == 0) {
+                lines = again;
+            } else {
+                int added = addLine(Deed.CLOSE);
+                partners[added] = again;
+            }
             takeSign(text, ';');
         }
 
@@ -1319,13 +1320,14 @@ public final class GrowHouse {
 
         /** The next DEED to be done, AGAINs being gone through; null behind the last one. */
         Deed nextDeed() {
-            for (int turn = 0; turn < MANY_TURNS; turn++) {
+            // three AGAINs at most are ended and three begun between two DEEDS
+            for (int turn = 0; turn < MOST_SCRIPT; turn++) {
                 line++;
                 if (line < 0 || line >= lines) {
                     return null;
                 }
                 if (deeds[line] == Deed.AGAIN) {
-                    beginRounds();
+                    rounds[line] = numbers[line * NUMBERS];
                 } else if (deeds[line] == Deed.CLOSE) {
                     endRound();
                 } else {
@@ -1333,13 +1335,6 @@ public final class GrowHouse {
                 }
             }
             return null;
-        }
-
-        void beginRounds() {
-            rounds[line] = numbers[line * NUMBERS];
-            if (rounds[line] == 0) {
-                line = partners[line];
-            }
         }
 
         void endRound() {
