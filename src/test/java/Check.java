@@ -3,6 +3,9 @@ import java.util.function.IntSupplier;
 
 /** Counts and tells the answers that are not as due. */
 final class Check {
+    /** No int, so no answer. */
+    static final long MISSING = Long.MAX_VALUE;
+
     private static int wrong = 0;
     private static int asked = 0;
     private static String part = "";
@@ -38,6 +41,66 @@ final class Check {
             System.out.println(part + ": " + what + " answered " + got + ", due is NoSuchElementException");
         } catch (NoSuchElementException due) {
             // as due
+        }
+    }
+
+    static void same(String what, String got, String want) {
+        asked++;
+        if (!got.equals(want)) {
+            wrong++;
+            int at = 0;
+            while (at < got.length() && at < want.length() && got.charAt(at) == want.charAt(at)) {
+                at++;
+            }
+            System.out.println(part + ": " + what + " is otherwise, from sign " + at + " on: ..."
+                + got.substring(Math.max(0, at - 30), Math.min(got.length(), at + 30)));
+        }
+    }
+
+    /** BLOCKS from one on. */
+    static void reads(GrowHouse x, int from, int... due) {
+        for (int i = 0; i < due.length; i++) {
+            int block = from + i;
+            is("read(" + block + ")", answer(() -> x.read(block)), due[i]);
+        }
+    }
+
+    /** The words of a ROW, DISK by DISK. */
+    static void row(GrowHouse x, int row, int... due) {
+        for (int disk = 0; disk < due.length; disk++) {
+            is("word(" + disk + ", " + row + ")", x.word(disk, row), due[disk]);
+        }
+    }
+
+    /** What laid() tells, DISK by DISK. */
+    static void laid(GrowHouse x, int... due) {
+        for (int disk = 0; disk < due.length; disk++) {
+            is("laid(" + disk + ")", x.laid(disk), due[disk]);
+        }
+    }
+
+    /** All BAD words, as badAt() tells them. */
+    static void bads(GrowHouse x, int... due) {
+        is("badAt(NONE)", x.badAt(GrowHouse.NONE), due.length);
+        for (int i = 0; i < due.length; i++) {
+            is("badAt(" + i + ")", x.badAt(i), due[i]);
+        }
+    }
+
+    /** All ROWS of SCRUB. */
+    static void scrubs(GrowHouse x, int... due) {
+        is("scrub(NONE)", x.scrub(GrowHouse.NONE), due.length);
+        for (int i = 0; i < due.length; i++) {
+            is("scrub(" + i + ")", x.scrub(i), due[i]);
+        }
+    }
+
+    /** MISSING, if it throws. */
+    static long answer(IntSupplier call) {
+        try {
+            return call.getAsInt();
+        } catch (NoSuchElementException missing) {
+            return MISSING;
         }
     }
 

@@ -54,36 +54,6 @@ public final class PromisesTest {
         Check.end("PromisesTest");
     }
 
-    /**
-     * 3 DISKS, 4 ROWS, BLOCKS 10 to 17:
-     * ROW 0: 10 11 P, ROW 1: 13 P 12, ROW 2: P 14 15, ROW 3: 16 17 P (each P is 1).
-     */
-    private static GrowHouse small() {
-        GrowHouse x = new GrowHouse();
-        x.make(3, 4);
-        x.fill(0, 8, 10);
-        return x;
-    }
-
-    /** The same, GROWN: 3 NEW STRIPES, a BATCH of 22 STEPS (6 READ, 6 BACKUP, MARK, 8 WRITE, CHECKPOINT), one of 7. */
-    private static GrowHouse growing() {
-        GrowHouse x = small();
-        x.grow();
-        return x;
-    }
-
-    private static void reads(GrowHouse x, int from, int... due) {
-        for (int i = 0; i < due.length; i++) {
-            Check.is("read(" + (from + i) + ")", x.read(from + i), due[i]);
-        }
-    }
-
-    private static void row(GrowHouse x, int row, int... due) {
-        for (int disk = 0; disk < due.length; disk++) {
-            Check.is("word(" + disk + ", " + row + ")", x.word(disk, row), due[disk]);
-        }
-    }
-
     private static void newObject() {
         Check.part("promise 1");
         GrowHouse x = new GrowHouse();
@@ -140,7 +110,7 @@ public final class PromisesTest {
 
     private static void set() {
         Check.part("promise 3");
-        GrowHouse x = small();
+        GrowHouse x = Sample.small();
         Check.is("set(0, 1)", x.set(0, 1), 2);
         Check.is("set(0, 4)", x.set(0, 4), 1);
         Check.is("set(0, 2)", x.set(0, 2), 4);
@@ -179,13 +149,13 @@ public final class PromisesTest {
 
     private static void grow() {
         Check.part("promise 4");
-        GrowHouse x = small();
+        GrowHouse x = Sample.small();
         x.lose(0);
         Check.is("grow(), one LOST", x.grow(), NONE);
         x.replace();
         Check.is("grow()", x.grow(), 3);
         Check.is("grow(), GROWN", x.grow(), NONE);
-        row(x, 0, 10, 11, 1, 0);
+        Check.row(x, 0, 10, 11, 1, 0);
         Check.is("laid(3)", x.laid(3), 0);
 
         x.make(6, 40);
@@ -208,7 +178,7 @@ public final class PromisesTest {
         }
         Check.is("grow() of 7", x.grow(), NONE);
         Check.is("DISKS", x.count(0), 7);
-        reads(x, 0, 7, 8, 9, 10, 11, 12);
+        Check.reads(x, 0, 7, 8, 9, 10, 11, 12);
         Check.is("read(29)", x.read(29), 36);
         Check.is("read(30)", x.read(30), 0);
         Check.is("scrub(NONE)", x.scrub(NONE), 0);
@@ -216,7 +186,7 @@ public final class PromisesTest {
 
     private static void steps() {
         Check.part("promise 5");
-        GrowHouse x = small();
+        GrowHouse x = Sample.small();
         Check.is("steps(1), not GROWN", x.steps(1), NONE);
         x.grow();
         int[] others = {0, -1, 401, MIN, MAX};
@@ -224,7 +194,7 @@ public final class PromisesTest {
             Check.is("steps(" + n + ")", x.steps(n), NONE);
         }
         Check.is("steps(13)", x.steps(13), 13);
-        row(x, 0, 10, 11, 1, 0);
+        Check.row(x, 0, 10, 11, 1, 0);
         int[] disks = {0, 1, 2, 3, 3, 0, 1, 2};
         int[] words = {10, 11, 12, 10 ^ 11 ^ 12, 13, 14, 15, 13 ^ 14 ^ 15};
         for (int k = 0; k < 8; k++) {
@@ -237,10 +207,10 @@ public final class PromisesTest {
         Check.is("steps(400)", x.steps(400), 7);
         Check.is("count(3)", x.count(3), 0);
         Check.is("steps(1), all NEW", x.steps(1), NONE);
-        reads(x, 0, 10, 11, 12, 13, 14, 15, 16, 17, 0, 0, 0, 0);
+        Check.reads(x, 0, 10, 11, 12, 13, 14, 15, 16, 17, 0, 0, 0, 0);
         Check.is("count(10)", x.count(10), 29);
 
-        GrowHouse y = growing();
+        GrowHouse y = Sample.growing();
         y.bad(0, 1);
         y.bad(2, 1);
         Check.is("steps(400) till STUCK", y.steps(400), 2);
@@ -256,7 +226,7 @@ public final class PromisesTest {
 
     private static void stepsOfLastBatch() {
         Check.part("promise 5, all NEW");
-        GrowHouse x = growing();
+        GrowHouse x = Sample.growing();
         x.steps(22);
         // ROW 3 is cleared with the last CHECKPOINT, PARITY, BAD words and the LOST DISK too
         x.bad(1, 3);
@@ -264,40 +234,40 @@ public final class PromisesTest {
         x.poke(3, 2, 5);
         Check.is("steps(6)", x.steps(6), 6);
         Check.is("BAD words", x.count(8), 2);
-        row(x, 3, 16, 17, 1, 0);
+        Check.row(x, 3, 16, 17, 1, 0);
         x.lose(0);
         Check.is("steps(1)", x.steps(1), 1);
-        row(x, 2, 0, 16 ^ 17, 16, 17);
-        row(x, 3, 0, 0, 0, 0);
+        Check.row(x, 2, 0, 16 ^ 17, 16, 17);
+        Check.row(x, 3, 0, 0, 0, 0);
         Check.is("BAD words", x.count(8), 0);
         Check.is("replace()", x.replace(), 0);
-        reads(x, 6, 16, 17, 0, 0, 0, 0);
+        Check.reads(x, 6, 16, 17, 0, 0, 0, 0);
 
         // a BATCH of all 3 STRIPES is CRITICAL, its last word is behind the last BLOCK
-        GrowHouse y = small();
+        GrowHouse y = Sample.small();
         y.set(0, 4);
         y.grow();
         y.steps(18);
         Check.is("MARK", y.batch(7), 1);
         Check.is("steps(400)", y.steps(400), 13);
-        row(y, 2, 0, 16 ^ 17, 16, 17);
-        reads(y, 0, 10, 11, 12, 13, 14, 15, 16, 17, 0, 0, 0, 0);
+        Check.row(y, 2, 0, 16 ^ 17, 16, 17);
+        Check.reads(y, 0, 10, 11, 12, 13, 14, 15, 16, 17, 0, 0, 0, 0);
     }
 
     private static void stepsOnLostDisk() {
         Check.part("promise 5, a DISK LOST");
-        GrowHouse x = growing();
+        GrowHouse x = Sample.growing();
         x.bad(0, 1);
         x.steps(13);
         x.lose(0);
         Check.is("steps(9)", x.steps(9), 9);
         // nothing is laid on DISK 0, and what is BAD there stays BAD
-        row(x, 0, 10, 11, 12, 10 ^ 11 ^ 12);
-        row(x, 1, 13, 15, 13 ^ 14 ^ 15, 13);
+        Check.row(x, 0, 10, 11, 12, 10 ^ 11 ^ 12);
+        Check.row(x, 1, 13, 15, 13 ^ 14 ^ 15, 13);
         Check.is("laid(0)", x.laid(0), 5);
         Check.is("laid(3)", x.laid(3), 2);
         Check.is("badAt(0)", x.badAt(0), 100);
-        reads(x, 0, 10, 11, 12, 13, 14, 15, 16, 17);
+        Check.reads(x, 0, 10, 11, 12, 13, 14, 15, 16, 17);
         Check.is("replace()", x.replace(), 0);
         Check.is("word(0, 1)", x.word(0, 1), 14);
         Check.is("BAD words", x.count(8), 0);
@@ -305,7 +275,7 @@ public final class PromisesTest {
 
     private static void crash() {
         Check.part("promise 6");
-        GrowHouse x = small();
+        GrowHouse x = Sample.small();
         x.ask(false, 0, 0, 0);
         Check.no("crash(), not GROWN", x.crash());
         Check.is("REQUESTS stay", x.count(15), 1);
@@ -329,8 +299,8 @@ public final class PromisesTest {
         Check.is("read(0) of the BACKUP", x.read(0), 99);
         Check.yes("crash() again", x.crash());
         Check.is("steps(9)", x.steps(9), 9);
-        reads(x, 0, 99, 11, 12, 13, 14, 15, 16, 17);
-        row(x, 0, 99, 11, 12, 99 ^ 11 ^ 12);
+        Check.reads(x, 0, 99, 11, 12, 13, 14, 15, 16, 17);
+        Check.row(x, 0, 99, 11, 12, 99 ^ 11 ^ 12);
 
         // the second BATCH is not CRITICAL: it begins anew in the midst of WRITE
         x.steps(4);
@@ -338,32 +308,32 @@ public final class PromisesTest {
         x.crash();
         Check.is("batch(1)", x.batch(1), 0);
         Check.is("BORDER", x.count(4), 2);
-        reads(x, 6, 16, 17);
+        Check.reads(x, 6, 16, 17);
         Check.is("steps(7)", x.steps(7), 7);
-        reads(x, 6, 16, 17);
+        Check.reads(x, 6, 16, 17);
         Check.no("crash(), all NEW", x.crash());
     }
 
     private static void read() {
         Check.part("promise 7");
-        GrowHouse x = small();
-        reads(x, 0, 10, 11, 12, 13, 14, 15, 16, 17);
+        GrowHouse x = Sample.small();
+        Check.reads(x, 0, 10, 11, 12, 13, 14, 15, 16, 17);
         int[] others = {-1, 8, MIN, MAX};
         for (int block : others) {
             Check.missing("read(" + block + ")", () -> x.read(block));
         }
         x.lose(1);
-        reads(x, 0, 10, 11, 12, 13, 14, 15, 16, 17);
+        Check.reads(x, 0, 10, 11, 12, 13, 14, 15, 16, 17);
         x.bad(0, 0);
         Check.missing("read(0)", () -> x.read(0));
         Check.missing("read(1)", () -> x.read(1));
-        reads(x, 2, 12, 13);
+        Check.reads(x, 2, 12, 13);
         // the PARITY that is lost harms no word that is READABLE
         x.bad(2, 1);
         Check.missing("read(2)", () -> x.read(2));
         Check.is("read(3)", x.read(3), 13);
 
-        GrowHouse y = growing();
+        GrowHouse y = Sample.growing();
         y.steps(5);
         y.poke(0, 0, 77);
         Check.is("read(0), not all READ", y.read(0), 77);
@@ -381,9 +351,9 @@ public final class PromisesTest {
 
     private static void write() {
         Check.part("promise 8");
-        GrowHouse x = small();
+        GrowHouse x = Sample.small();
         Check.is("write(3, 40)", x.write(3, 40), 1);
-        row(x, 1, 40, 40 ^ 12, 12);
+        Check.row(x, 1, 40, 40 ^ 12, 12);
         int[] others = {-1, 8, MIN, MAX};
         for (int block : others) {
             Check.is("write(" + block + ", 1)", x.write(block, 1), NONE);
@@ -394,14 +364,14 @@ public final class PromisesTest {
         // on a LOST DISK only PARITY is laid
         x.lose(0);
         Check.is("write(0, 20)", x.write(0, 20), 1);
-        row(x, 0, 10, 11, 20 ^ 11);
+        Check.row(x, 0, 10, 11, 20 ^ 11);
         Check.is("read(0)", x.read(0), 20);
         // PARITY on a LOST DISK: only the word is laid
         Check.is("write(4, 24)", x.write(4, 24), 1);
-        row(x, 2, 1, 24, 15);
+        Check.row(x, 2, 1, 24, 15);
         // the other word is LOST, so REBUILT
         Check.is("write(1, 21)", x.write(1, 21), 1);
-        row(x, 0, 10, 21, 20 ^ 21);
+        Check.row(x, 0, 10, 21, 20 ^ 21);
         Check.is("read(0)", x.read(0), 20);
         // PARITY is BAD, the other word LOST
         x.bad(2, 0);
@@ -409,10 +379,10 @@ public final class PromisesTest {
         Check.is("word(1, 0)", x.word(1, 0), 21);
         // of the LOST word the other one is READABLE: PARITY is good again
         Check.is("write(0, 30)", x.write(0, 30), 1);
-        row(x, 0, 10, 21, 30 ^ 21);
+        Check.row(x, 0, 10, 21, 30 ^ 21);
         Check.is("BAD words", x.count(8), 0);
 
-        GrowHouse y = small();
+        GrowHouse y = Sample.small();
         y.bad(0, 1);
         y.bad(1, 1);
         Check.is("write(3, 7), it and PARITY BAD", y.write(3, 7), 1);
@@ -426,7 +396,7 @@ public final class PromisesTest {
         Check.yes("it stays BAD", !y.bad(0, 3));
         Check.is("read(6)", y.read(6), 1);
 
-        GrowHouse z = growing();
+        GrowHouse z = Sample.growing();
         Check.is("write(0, 1)", z.write(0, 1), 1);
         z.steps(1);
         Check.is("write(0, 2), MOVING", z.write(0, 2), -3);
@@ -435,7 +405,7 @@ public final class PromisesTest {
         Check.is("write(8, 2)", z.write(8, 2), NONE);
         z.steps(21);
         Check.is("write(5, 3) by NEW", z.write(5, 3), 1);
-        row(z, 1, 14, 3, 13 ^ 14 ^ 3, 13);
+        Check.row(z, 1, 14, 3, 13 ^ 14 ^ 3, 13);
     }
 
     private static void fill() {
@@ -443,9 +413,9 @@ public final class PromisesTest {
         GrowHouse x = new GrowHouse();
         x.make(3, 4);
         Check.is("fill(2, 3, 5)", x.fill(2, 3, 5), 3);
-        reads(x, 0, 0, 0, 5, 6, 7, 0, 0, 0);
+        Check.reads(x, 0, 0, 0, 5, 6, 7, 0, 0, 0);
         Check.is("fill(6, 2, MAX)", x.fill(6, 2, MAX), 2);
-        reads(x, 6, MAX, MIN);
+        Check.reads(x, 6, MAX, MIN);
         int[][] others = {{-1, 1}, {8, 1}, {0, 0}, {0, 9}, {7, 2}, {0, -1}, {MAX, 1}, {MIN, 1}, {0, MAX}, {0, MIN},
             {MAX, MAX}, {MIN, MIN}, {0, 201}};
         for (int[] other : others) {
@@ -459,20 +429,20 @@ public final class PromisesTest {
         Check.is("fill(0, 201, 1)", x.fill(0, 201, 1), NONE);
         Check.is("fill(40, 200, 1)", x.fill(40, 200, 1), 200);
 
-        GrowHouse y = growing();
+        GrowHouse y = Sample.growing();
         y.steps(1);
         Check.is("fill(4, 4, 50), some MOVING", y.fill(4, 4, 50), 2);
-        reads(y, 4, 14, 15, 52, 53);
+        Check.reads(y, 4, 14, 15, 52, 53);
         y.crash();
         y.bad(0, 1);
         y.bad(2, 1);
         Check.is("fill(0, 8, 60), some can't be", y.fill(0, 8, 60), 6);
-        reads(y, 4, 64, 65, 66, 67);
+        Check.reads(y, 4, 64, 65, 66, 67);
     }
 
     private static void lose() {
         Check.part("promise 10");
-        GrowHouse x = small();
+        GrowHouse x = Sample.small();
         int[] others = {-1, 3, MIN, MAX};
         for (int disk : others) {
             Check.no("lose(" + disk + ")", x.lose(disk));
@@ -487,12 +457,12 @@ public final class PromisesTest {
         x.grow();
         Check.yes("lose(3), GROWN", x.lose(3));
         Check.is("count(7)", x.count(7), 3);
-        reads(x, 0, 10, 11, 12, 13, 14, 15, 16, 17);
+        Check.reads(x, 0, 10, 11, 12, 13, 14, 15, 16, 17);
     }
 
     private static void replace() {
         Check.part("promise 11");
-        GrowHouse x = small();
+        GrowHouse x = Sample.small();
         Check.is("replace(), none LOST", x.replace(), NONE);
         x.bad(0, 2);
         x.lose(0);
@@ -500,10 +470,10 @@ public final class PromisesTest {
         x.bad(1, 1);
         x.bad(2, 3);
         Check.is("replace()", x.replace(), 2);
-        row(x, 0, 40, 11, 40 ^ 11);
-        row(x, 1, 0, 1, 12);
-        row(x, 2, 14 ^ 15, 14, 15);
-        row(x, 3, 0, 17, 1);
+        Check.row(x, 0, 40, 11, 40 ^ 11);
+        Check.row(x, 1, 0, 1, 12);
+        Check.row(x, 2, 14 ^ 15, 14, 15);
+        Check.row(x, 3, 0, 17, 1);
         Check.is("BAD words", x.count(8), 4);
         Check.is("badAt(0)", x.badAt(0), 100);
         Check.is("badAt(1)", x.badAt(1), 101);
@@ -515,7 +485,7 @@ public final class PromisesTest {
 
     private static void replaceWhileGrown() {
         Check.part("promise 11, GROWN");
-        GrowHouse x = growing();
+        GrowHouse x = Sample.growing();
         x.steps(22);
         x.poke(3, 2, 9);
         x.bad(3, 3);
@@ -525,10 +495,10 @@ public final class PromisesTest {
         x.crash();
         // by NEW below BORDER (2), 0 from there on: DISK n has no word of OLD
         Check.is("replace()", x.replace(), 0);
-        row(x, 0, 10, 11, 12, 10 ^ 11 ^ 12);
-        row(x, 1, 14, 15, 13 ^ 14 ^ 15, 13);
-        row(x, 2, 1, 14, 15, 0);
-        row(x, 3, 16, 17, 1, 0);
+        Check.row(x, 0, 10, 11, 12, 10 ^ 11 ^ 12);
+        Check.row(x, 1, 14, 15, 13 ^ 14 ^ 15, 13);
+        Check.row(x, 2, 1, 14, 15, 0);
+        Check.row(x, 3, 16, 17, 1, 0);
         Check.is("BAD words", x.count(8), 0);
 
         x.poke(3, 2, 9);
@@ -537,16 +507,16 @@ public final class PromisesTest {
         x.bad(3, 1);
         // BAD words of DISK n count below BORDER alone
         Check.is("replace()", x.replace(), 1);
-        row(x, 0, 10, 11, 12, 10 ^ 11 ^ 12);
-        row(x, 1, 14, 0, 13 ^ 14 ^ 15, 13);
-        row(x, 2, 1, 1 ^ 15, 15, 9);
-        row(x, 3, 16, 17, 1, 0);
+        Check.row(x, 0, 10, 11, 12, 10 ^ 11 ^ 12);
+        Check.row(x, 1, 14, 0, 13 ^ 14 ^ 15, 13);
+        Check.row(x, 2, 1, 1 ^ 15, 15, 9);
+        Check.row(x, 3, 16, 17, 1, 0);
         Check.is("laid(1)", x.laid(1), 5 + 2);
     }
 
     private static void bad() {
         Check.part("promise 12");
-        GrowHouse x = small();
+        GrowHouse x = Sample.small();
         int[][] others = {{-1, 0}, {3, 0}, {0, -1}, {0, 4}, {MIN, 0}, {MAX, 0}, {0, MIN}, {0, MAX}};
         for (int[] other : others) {
             Check.no("bad(" + other[0] + ", " + other[1] + ")", x.bad(other[0], other[1]));
@@ -566,7 +536,7 @@ public final class PromisesTest {
 
     private static void ask() {
         Check.part("promise 13");
-        GrowHouse x = small();
+        GrowHouse x = Sample.small();
         int[][] others = {{-1, 0}, {8, 0}, {0, -1}, {0, 10}, {MIN, 0}, {MAX, 0}, {0, MIN}, {0, MAX}};
         for (int[] other : others) {
             Check.is("ask of others", x.ask(false, other[0], 0, other[1]), NONE);
@@ -588,7 +558,7 @@ public final class PromisesTest {
 
     private static void tick() {
         Check.part("promise 14");
-        GrowHouse x = small();
+        GrowHouse x = Sample.small();
         int[] others = {0, -1, 61, MIN, MAX};
         for (int ios : others) {
             Check.is("tick(" + ios + ")", x.tick(ios), NONE);
@@ -646,7 +616,7 @@ public final class PromisesTest {
 
     private static void tickWhileGrown() {
         Check.part("promise 14, GROWN");
-        GrowHouse x = growing();
+        GrowHouse x = Sample.growing();
         x.set(1, 3);
         x.ask(false, 0, 0, 0);
         Check.is("tick(3), all kept", x.tick(3), 0);
@@ -685,7 +655,7 @@ public final class PromisesTest {
 
     private static void served() {
         Check.part("promise 15");
-        GrowHouse x = small();
+        GrowHouse x = Sample.small();
         x.bad(0, 0);
         x.bad(1, 0);
         x.ask(false, 2, 99, 0);
@@ -710,7 +680,7 @@ public final class PromisesTest {
 
     private static void servedKept() {
         Check.part("promise 15, the latest 30");
-        GrowHouse x = small();
+        GrowHouse x = Sample.small();
         for (int i = 0; i < 31; i++) {
             x.ask(false, i % 8, 0, 0);
             x.tick(1);
@@ -732,7 +702,7 @@ public final class PromisesTest {
 
     private static void request() {
         Check.part("promise 16");
-        GrowHouse x = small();
+        GrowHouse x = Sample.small();
         Check.is("request(NONE, 0)", x.request(NONE, 0), 0);
         Check.is("request(0, 0)", x.request(0, 0), NONE);
         x.ask(false, 1, 0, 5);
@@ -762,14 +732,14 @@ public final class PromisesTest {
 
     private static void poke() {
         Check.part("promise 17");
-        GrowHouse x = small();
+        GrowHouse x = Sample.small();
         int[][] others = {{-1, 0}, {3, 0}, {0, -1}, {0, 4}, {MIN, 0}, {MAX, 0}, {0, MIN}, {0, MAX}};
         for (int[] other : others) {
             Check.no("poke of others", x.poke(other[0], other[1], 1));
         }
         x.bad(0, 0);
         Check.yes("poke(0, 0, 90)", x.poke(0, 0, 90));
-        row(x, 0, 90, 11, 1);
+        Check.row(x, 0, 90, 11, 1);
         Check.is("BAD words", x.count(8), 0);
         Check.is("read(0)", x.read(0), 90);
         Check.is("laid(0)", x.laid(0), 5);
@@ -780,7 +750,7 @@ public final class PromisesTest {
 
     private static void scrub() {
         Check.part("promise 18");
-        GrowHouse x = small();
+        GrowHouse x = Sample.small();
         Check.is("scrub(NONE)", x.scrub(NONE), 0);
         Check.is("scrub(0)", x.scrub(0), NONE);
         x.poke(0, 1, 0);
@@ -803,7 +773,7 @@ public final class PromisesTest {
 
     private static void scrubWhileGrown() {
         Check.part("promise 18, GROWN");
-        GrowHouse x = growing();
+        GrowHouse x = Sample.growing();
         x.poke(3, 0, 5);
         Check.is("scrub(NONE), DISK n is not of OLD", x.scrub(NONE), 0);
         x.bad(3, 0);
@@ -832,28 +802,28 @@ public final class PromisesTest {
 
     private static void repair() {
         Check.part("promise 19");
-        GrowHouse x = small();
+        GrowHouse x = Sample.small();
         Check.is("repair()", x.repair(), 0);
         x.poke(0, 1, 50);
         x.poke(2, 3, 0);
         x.poke(1, 2, 0);
         x.bad(2, 2);
         Check.is("repair()", x.repair(), 2);
-        row(x, 1, 50, 50 ^ 12, 12);
-        row(x, 2, 1, 0, 15);
-        row(x, 3, 16, 17, 16 ^ 17);
+        Check.row(x, 1, 50, 50 ^ 12, 12);
+        Check.row(x, 2, 1, 0, 15);
+        Check.row(x, 3, 16, 17, 16 ^ 17);
         Check.is("laid(1)", x.laid(1), 6);
         Check.is("laid(2)", x.laid(2), 7);
         Check.is("laid(0)", x.laid(0), 5);
         Check.is("scrub(NONE)", x.scrub(NONE), 0);
 
-        GrowHouse y = growing();
+        GrowHouse y = Sample.growing();
         y.steps(22);
         y.poke(3, 1, 0);
         y.poke(0, 3, 0);
         Check.is("repair(), GROWN", y.repair(), 2);
-        row(y, 1, 14, 15, 14 ^ 15, 0);
-        row(y, 3, 0, 17, 17, 0);
+        Check.row(y, 1, 14, 15, 14 ^ 15, 0);
+        Check.row(y, 3, 0, 17, 17, 0);
         y.poke(0, 2, 0);
         y.steps(1);
         Check.is("repair(), MOVING", y.repair(), 0);
@@ -861,7 +831,7 @@ public final class PromisesTest {
 
     private static void forecast() {
         Check.part("promise 20");
-        GrowHouse x = small();
+        GrowHouse x = Sample.small();
         Check.is("forecast(10), not GROWN", x.forecast(10), NONE);
         x.grow();
         int[] others = {0, -1, 61, MIN, MAX};
@@ -911,7 +881,7 @@ public final class PromisesTest {
 
     private static void image() {
         Check.part("promise 21");
-        GrowHouse x = small();
+        GrowHouse x = Sample.small();
         int[] others = {-1, 2, MIN, MAX};
         for (int i : others) {
             Check.no("image(" + i + ")", x.image(i));
@@ -931,7 +901,7 @@ public final class PromisesTest {
 
     private static void back() {
         Check.part("promise 22");
-        GrowHouse x = small();
+        GrowHouse x = Sample.small();
         x.set(0, 1);
         x.set(1, 4);
         x.set(2, 9);
@@ -968,7 +938,7 @@ public final class PromisesTest {
         Check.is("batch(1)", x.batch(1), 7);
         Check.is("laid(3)", x.laid(3), 0);
         Check.is("request(0, 1)", x.request(0, 1), 7);
-        reads(x, 0, 10, 11, 12, 13, 14, 15, 16, 17);
+        Check.reads(x, 0, 10, 11, 12, 13, 14, 15, 16, 17);
         // an IMAGE is not altered by what is done behind back()
         x.steps(400);
         x.write(0, 5);
@@ -1025,13 +995,13 @@ public final class PromisesTest {
 
     private static void script() {
         Check.part("promise 25");
-        GrowHouse x = small();
+        GrowHouse x = Sample.small();
         Check.is("an empty SCRIPT", x.script(), 0);
         Check.is("blanks", Check.script(x, "   "), 0);
         Check.is("all DEEDS",
             Check.script(x, "grow;steps 3;crash;image 0;lose 1;replace;write 0 90;fill 6 2 50;bad 0 1;"), 9);
         Check.is("the TAPE is empty", x.count(16), 0);
-        reads(x, 0, 90, 11, 12, 13, 14, 15, 50, 51);
+        Check.reads(x, 0, 90, 11, 12, 13, 14, 15, 50, 51);
         Check.is("badAt(0)", x.badAt(0), 100);
         x.poke(0, 2, 77);
         Check.is("repair, tick", Check.script(x, " repair ;tick5; "), 2);
@@ -1058,7 +1028,7 @@ public final class PromisesTest {
 
     private static void scriptFaults() {
         Check.part("promise 25, FAULTS");
-        GrowHouse x = small();
+        GrowHouse x = Sample.small();
         String[] texts = {
             "x;", "Grow;", ";", "]", "[", "grow", "grow ", "growx;", "grow;grow 5;", "grow;;", "5;", "steps;",
             "steps ;", "steps", "steps 12345;", "steps 12345", "steps 99999999999999999999;", "steps 00001;",
@@ -1085,7 +1055,7 @@ public final class PromisesTest {
 
     private static void scriptRefusals() {
         Check.part("promise 25, refused");
-        GrowHouse x = small();
+        GrowHouse x = Sample.small();
         Check.is("crash", Check.script(x, "write 0 1;crash;write 0 2;"), 1);
         Check.is("read(0)", x.read(0), 1);
         String[] first = {"steps 1;", "replace;", "tick 0;", "tick 61;", "lose 3;", "write 8 1;", "fill 0 9 1;", "fill 0 0 1;",
@@ -1110,7 +1080,7 @@ public final class PromisesTest {
 
     private static void scriptAgain() {
         Check.part("promise 25, again");
-        GrowHouse x = small();
+        GrowHouse x = Sample.small();
         Check.is("again 3", Check.script(x, "again 3[tick 1;];"), 3);
         Check.is("TICKS", x.count(9), 3);
         Check.is("again 0", Check.script(x, "again 0[tick 1;again 5[tick 1;];];tick 1;"), 1);
@@ -1135,7 +1105,7 @@ public final class PromisesTest {
 
     private static void laid() {
         Check.part("promise 26");
-        GrowHouse x = small();
+        GrowHouse x = Sample.small();
         int[] others = {-1, 3, MIN, MAX};
         for (int disk : others) {
             Check.is("laid(" + disk + ")", x.laid(disk), NONE);
@@ -1170,7 +1140,7 @@ public final class PromisesTest {
 
     private static void of() {
         Check.part("promise 27");
-        GrowHouse x = growing();
+        GrowHouse x = Sample.growing();
         int[] disks = {0, 1, 2, 0, 1, 2, 0, 1};
         for (int block = 0; block < 8; block++) {
             Check.is("of(" + block + ", 0)", x.of(block, 0), 0);
@@ -1221,11 +1191,11 @@ public final class PromisesTest {
 
     private static void word() {
         Check.part("promise 28");
-        GrowHouse x = small();
-        row(x, 0, 10, 11, 1);
-        row(x, 1, 13, 1, 12);
-        row(x, 2, 1, 14, 15);
-        row(x, 3, 16, 17, 1);
+        GrowHouse x = Sample.small();
+        Check.row(x, 0, 10, 11, 1);
+        Check.row(x, 1, 13, 1, 12);
+        Check.row(x, 2, 1, 14, 15);
+        Check.row(x, 3, 16, 17, 1);
         int[][] others = {{-1, 0}, {3, 0}, {0, -1}, {0, 4}, {MIN, 0}, {MAX, 0}, {0, MIN}, {0, MAX}};
         for (int[] other : others) {
             Check.missing("word of others", () -> x.word(other[0], other[1]));
@@ -1242,7 +1212,7 @@ public final class PromisesTest {
 
     private static void badAt() {
         Check.part("promise 29");
-        GrowHouse x = small();
+        GrowHouse x = Sample.small();
         Check.is("badAt(NONE)", x.badAt(NONE), 0);
         Check.is("badAt(0)", x.badAt(0), NONE);
         x.bad(2, 0);
@@ -1264,7 +1234,7 @@ public final class PromisesTest {
 
     private static void spoilt() {
         Check.part("promise 30");
-        GrowHouse x = small();
+        GrowHouse x = Sample.small();
         Check.is("spoilt(), not GROWN", x.spoilt(), NONE);
         x.grow();
         Check.is("spoilt()", x.spoilt(), 0);
@@ -1294,7 +1264,7 @@ public final class PromisesTest {
 
     private static void exposed() {
         Check.part("promise 31");
-        GrowHouse x = small();
+        GrowHouse x = Sample.small();
         int[] others = {-1, 3, MIN, MAX};
         for (int disk : others) {
             Check.is("exposed(" + disk + ")", x.exposed(disk), NONE);
@@ -1315,7 +1285,7 @@ public final class PromisesTest {
         Check.is("exposed(1), one LOST", x.exposed(1), 0);
         Check.is("exposed(3), one LOST", x.exposed(3), NONE);
 
-        GrowHouse y = growing();
+        GrowHouse y = Sample.growing();
         y.bad(0, 0);
         Check.is("exposed(3)", y.exposed(3), 0);
         Check.is("exposed(4)", y.exposed(4), NONE);
@@ -1332,7 +1302,7 @@ public final class PromisesTest {
 
     private static void batch() {
         Check.part("promise 32");
-        GrowHouse x = small();
+        GrowHouse x = Sample.small();
         for (int what = -1; what <= 8; what++) {
             Check.is("batch(" + what + "), not GROWN", x.batch(what), NONE);
         }
@@ -1357,7 +1327,7 @@ public final class PromisesTest {
         // what was READ is no more asked for
         batches(x, 7, 2, 0, 5, 0, 0, 0, 0);
 
-        GrowHouse y = growing();
+        GrowHouse y = Sample.growing();
         y.set(0, 1);
         // BORDER 0: 3 + 3 + 1 + 4 + 1; BORDER 1: 3 / 2 = 1 is the STRIPE itself: CRITICAL; BORDER 2: 3 is behind it
         batches(y, 12, 0, 1, 31, 2, 3, 0, 0);
@@ -1383,7 +1353,7 @@ public final class PromisesTest {
 
     private static void count() {
         Check.part("promise 33");
-        GrowHouse x = growing();
+        GrowHouse x = Sample.growing();
         x.set(0, 1);
         x.set(1, 3);
         x.set(2, 7);
