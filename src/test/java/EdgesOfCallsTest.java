@@ -700,7 +700,12 @@ public final class EdgesOfCallsTest {
                 idleAnywhere("request(" + i + ", " + w + ")", y -> y.request(i, w), NONE);
             }
         }
-        Check.is("request(1, 1)", Sample.calm().request(1, 1), 2);
+        int[][] due = {{1, 6, 5, 1}, {2, 2, 9, 0}};
+        for (int i = 0; i < 2; i++) {
+            for (int what = 0; what < 4; what++) {
+                Check.is("request(" + i + ", " + what + ")", Sample.calm().request(i, what), due[i][what]);
+            }
+        }
     }
 
     // Promise 17

@@ -63,6 +63,9 @@ public final class EdgesOfScriptTest {
         Check.reads(x, 0, 50, 51);
         done(x, times("tick 1;", 34) + "  ", 34);
         Check.is("TICKS", x.count(9), 34);
+        // as many DEEDS as there can be
+        done(x, times("grow;", 48), 1);
+        Check.is("GROWN", x.count(3), 1);
         Check.part("25: NONE: more than 240 bytes");
         for (int more = 1; more <= 24; more++) {
             GrowHouse y = Sample.small();
@@ -141,6 +144,13 @@ public final class EdgesOfScriptTest {
     /** "words: small letters, as far as these go on" */
     private static void wordsAsFarAsLettersGoOn() {
         Check.part("25: words as far as letters go on");
+        for (char letter = 'a'; letter <= 'z'; letter++) {
+            fault("grow" + letter + ";", 0, 1);
+            fault("" + letter + ";", 0, 1);
+        }
+        // those next to small letters are none
+        fault("grow`;", 4, 1);
+        fault("grow{;", 4, 1);
         fault("growgrow;", 0, 1);
         fault("grows;", 0, 1);
         fault("gro;", 0, 1);
@@ -499,7 +509,7 @@ public final class EdgesOfScriptTest {
         Check.part("25: each as its call");
         GrowHouse x = Sample.calm();
         x.end(0);
-        done(x, "image 1;write 0 50;fill 1 2 60;bad 0 3;repair;lose 2;replace;grow;steps 14;tick 7;crash;back 0;", 12);
+        done(x, "image 1;write 0 50;fill 1 2 60;bad 0 3;repair;lose 2;replace;grow;steps 14;tick 7;", 10);
         GrowHouse y = Sample.calm();
         y.end(0);
         y.image(1);
@@ -512,9 +522,13 @@ public final class EdgesOfScriptTest {
         y.grow();
         y.steps(14);
         y.tick(7);
+        Check.reads(x, 0, 50, 60, 61);
+        Check.is("served(1, 1)", x.served(1, 1), y.served(1, 1));
+        done(x, "crash;", 1);
         y.crash();
-        y.back(0);
         Check.same("what is told", Sample.told(x), Sample.told(y));
+        done(x, "write 0 7;back 1;", 2);
+        Check.is("read(0), IMAGE 1", x.read(0), 10);
 
         GrowHouse z = Sample.calm();
         z.end(0);

@@ -288,6 +288,7 @@ public final class EdgesOfTermsTest {
         lastCheckpointEndsTheGrowth();
         rowsFromNewStripesOnAreCleared();
         noRowIsClearedIfNewStripesFillAll();
+        lastStripeHasOneBlockToAll();
         sevenDisksCantBeGrown();
     }
 
@@ -425,6 +426,32 @@ public final class EdgesOfTermsTest {
             Check.is("read(" + block + ")", x.read(block), block < 20 ? block + 1 : 0);
         }
         Check.is("scrub(NONE)", x.scrub(NONE), 0);
+    }
+
+    /** "NEW STRIPES .. upwards": the last one may have one BLOCK, or n of them. */
+    private static void lastStripeHasOneBlockToAll() {
+        Check.part("BLOCKS of the last NEW STRIPE");
+        for (int n = 3; n <= 6; n++) {
+            for (int rows = 4; rows <= 12; rows++) {
+                GrowHouse x = new GrowHouse();
+                int blocks = x.make(n, rows);
+                x.fill(0, blocks, 1);
+                int stripes = x.grow();
+                x.set(0, 1);
+                for (int border = 0; border < stripes; border++) {
+                    int reads = Math.min(n, blocks - border * n);
+                    int backup = border * n / (n - 1) <= border ? n + 1 : 0;
+                    Check.is("batch(0), " + n + " DISKS, " + rows + " ROWS, BORDER " + border,
+                        x.batch(0), reads + backup + n + 1 + 1);
+                    x.steps(x.batch(0));
+                }
+                Check.is("all NEW", x.count(3), 0);
+                for (int block = 0; block < rows * n; block++) {
+                    Check.is("read(" + block + ")", x.read(block), block < blocks ? block + 1 : 0);
+                }
+                Check.scrubs(x);
+            }
+        }
     }
 
     /** "DISKS n (3 to 6)", grown to n + 1: 7 are the most. */
@@ -747,6 +774,7 @@ public final class EdgesOfTermsTest {
         movingEndsWithTheBatch();
         movingIsReadByOldTillAllWereRead();
         movingIsReadThoughItsWordsAreGone();
+        movingIsReadInEachBatch();
         movingCantBeWritten();
         movingKeepsTheSize();
         crashEndsRequests();
@@ -819,6 +847,25 @@ public final class EdgesOfTermsTest {
         Check.is("BLOCKS that can't be read", x.count(14), 0);
         Check.is("steps(16)", x.steps(16), 16);
         Check.reads(x, 0, 10, 11, 12, 13, 14, 15);
+    }
+
+    /** "they are read as their words that were READ": in the last BATCH as in the first, to the last word of it. */
+    private static void movingIsReadInEachBatch() {
+        Check.part("MOVING is read as READ, in each BATCH");
+        GrowHouse x = Sample.large(6);
+        x.set(0, 4);
+        x.grow();
+        for (int first = 0; first < 200; first += 24) {
+            int end = Math.min(200, first + 24);
+            int all = x.batch(0);
+            x.steps(end - first);
+            for (int block = first; block < end; block++) {
+                Check.is("of(" + block + ", 4)", x.of(block, 4), 0);
+                Check.is("read(" + block + ")", x.read(block), block + 1);
+            }
+            x.steps(all - (end - first));
+        }
+        Check.is("all NEW", x.count(3), 0);
     }
 
     /** "and can't be WRITTEN" */
