@@ -942,6 +942,28 @@ public final class EdgesOfCallsTest {
         Check.feed(x, "lose 1;");
         Check.is("end(0)", x.end(0), 0);
         Check.is("script()", x.script(), 0);
+        endLeavesNothingBehind();
+    }
+
+    /** "its first n bytes alone": what was behind them is not seen, though it would go on with them. */
+    private static void endLeavesNothingBehind() {
+        Check.part("24: its first n bytes alone");
+        String[] texts = {"tick 10;", "grow;   ", "again 1[", "lose 0; ", "]];;]];;"};
+        int[] kept = {7, 4, 7, 6, 0};
+        int[] due = {Check.fault(7, 1), Check.fault(4, 1), Check.fault(7, 1), Check.fault(6, 1), 0};
+        for (int i = 0; i < texts.length; i++) {
+            GrowHouse x = Sample.small();
+            long eight = Check.eight(texts[i], 0);
+            x.feed(eight, eight, eight);
+            Check.is("end", x.end(kept[i]), kept[i]);
+            Check.is("script() of " + texts[i].substring(0, kept[i]), x.script(), due[i]);
+            Check.is("TICKS", x.count(9), 0);
+        }
+        // a number ends with them, and what script() had emptied is gone, too
+        GrowHouse x = Sample.small();
+        Check.is("script()", Check.script(x, "write 0 12;write 1 13;"), 2);
+        Check.is("script()", Check.script(x, "write 0 1"), Check.fault(9, 1));
+        Check.is("read(0)", x.read(0), 12);
     }
 
     // Promise 26
@@ -1088,6 +1110,17 @@ public final class EdgesOfCallsTest {
         GrowHouse x = Sample.growing();
         x.steps(29);
         Check.is("spoilt(), all NEW", x.spoilt(), NONE);
+        Check.part("30: BLOCKS alone");
+        // the last BATCH, all READ: what is behind the last BLOCK is none
+        GrowHouse last = Sample.growing();
+        last.steps(24);
+        Check.is("spoilt()", last.spoilt(), 0);
+        last.poke(0, 3, 99);
+        Check.is("spoilt(), BLOCK 6 otherwise", last.spoilt(), 1);
+        for (int disk = 0; disk < 4; disk++) {
+            Check.is("exposed(" + disk + ")", last.exposed(disk), 0);
+        }
+        Check.is("count(14)", last.count(14), 0);
         Check.part("30: nothing is altered");
         idle("spoilt()", Sample::between, GrowHouse::spoilt, 0);
         Supplier<GrowHouse> harmed = () -> {
